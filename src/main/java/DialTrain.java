@@ -222,7 +222,16 @@ public final class DialTrain {
         if (i < 0) {
             return refuse(INDEX);
         }
-        return turnAll(spindle, i, doubles.items[j]);
+        int turned = 0;
+        for (int at = i; at < spindle.length; at++) {
+            Wheel wheel = spindle.places[at];
+            // a place without a wheel ends it like the end of the spindle does: that is no refusal
+            if (wheel == null || turnOn(wheel, doubles.items[j]) < 0) {
+                break;
+            }
+            turned++;
+        }
+        return turned;
     }
 
     public long angle(int slot, int i) {
@@ -354,19 +363,6 @@ public final class DialTrain {
             return refuse(NONE);
         }
         return wheel.turnBy(Lane.DOUBLE.number(by)) ? 1 : 0;
-    }
-
-    /** A place without a wheel ends it like the end of the spindle does, and is no refusal. */
-    private int turnAll(Spindle spindle, int first, long by) {
-        int turned = 0;
-        for (int at = first; at < spindle.length; at++) {
-            Wheel wheel = spindle.places[at];
-            if (wheel == null || turnOn(wheel, by) < 0) {
-                break;
-            }
-            turned++;
-        }
-        return turned;
     }
 
     private int slotsInUse() {
