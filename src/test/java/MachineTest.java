@@ -91,12 +91,19 @@ public final class MachineTest {
     }
 
     private long whole() {
-        switch (draw.nextInt(4)) {
+        switch (draw.nextInt(5)) {
             case 0: return draw.nextLong();
+            case 3: return halfway(24 + draw.nextInt(38));
             case 1: return (1L << draw.nextInt(64)) + draw.nextInt(5) - 2;
             case 2: return draw.nextLong() >> draw.nextInt(64);
             default: return (long) number();
         }
+    }
+
+    /** Close to the middle of two floats, where a cast by way of a double may go to the other one. */
+    private long halfway(int high) {
+        long odd = (draw.nextInt(1 << 22) * 2L + 1L) << (high - 23) >> 1;
+        return (1L << high) + odd + draw.nextInt(3) - 1;
     }
 
     private int teeth() {

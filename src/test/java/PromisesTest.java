@@ -430,6 +430,7 @@ public final class PromisesTest {
         due.is("wind by no double", x.wind(7, D, 0, NO_DOUBLES[1]), BAD);
         due.is("wind by no float", x.wind(7, F, 0, NO_FLOATS[1]), BAD);
         due.is("wind with no lane", x.wind(2, 2, 0, 0), BAD);
+        due.is("wind with no lane in nothing", x.wind(7, 3, 0, 0), BAD);
         due.is("wind of no slot", x.wind(8, F, 0, 0), BAD);
         refusals(x, 1, 1, 0, 0, 0);
     }
@@ -473,7 +474,10 @@ public final class PromisesTest {
             refusedAs(x, 0, F, 0, how, BAD);
             refusedAs(x, 7, F, 0, how, BAD);
         }
-        refusedAs(x, 2, 2, 0, 0, BAD);
+        for (int lane : new int[] {-1, 2, 3, MIN, MAX}) {
+            refusedAs(x, 0, lane, 0, 0, BAD);
+            refusedAs(x, 7, lane, 0, 0, BAD);
+        }
         refusedAs(x, 8, F, 0, 0, BAD);
         refusedAs(x, -1, F, 0, 0, BAD);
         refusals(x, 1, 2, 2, 0, 0);
@@ -511,7 +515,10 @@ public final class PromisesTest {
             due.is("whole by no how", x.whole(0, F, 0, 1, how), BAD);
             due.is("whole by no how in nothing", x.whole(7, F, 0, 1, how), BAD);
         }
-        due.is("whole with no lane", x.whole(2, 2, 0, 1, 0), BAD);
+        for (int lane : new int[] {-1, 2, 3, MIN, MAX}) {
+            due.is("whole with no lane", x.whole(0, lane, 0, 1, 0), BAD);
+            due.is("whole with no lane in nothing", x.whole(7, lane, 0, 1, 0), BAD);
+        }
         due.is("whole of no slot", x.whole(8, F, 0, 1, 0), BAD);
         item(x, 0, F, 0, 0.0);
         refusals(x, 1, 1, 2, 0, 0);
