@@ -16,6 +16,17 @@ final class Due {
         }
     }
 
+    /** Something that no single answer tells. */
+    void fault(String what) {
+        calls++;
+        wrong++;
+        System.out.println(part + ": " + what);
+    }
+
+    int calls() {
+        return calls;
+    }
+
     boolean anyWrong() {
         return wrong != 0;
     }

@@ -29,9 +29,10 @@ public final class FaceTest {
         compare("methods", new TreeSet<>(Arrays.asList(METHODS)), methods());
         compare("constants", new TreeSet<>(Arrays.asList(CONSTANTS)), constants());
         constructors();
+        namesOfHiddenMethods();
         for (Class<?> inside : DialTrain.class.getDeclaredClasses()) {
-            if (!Modifier.isStatic(inside.getModifiers()) || Modifier.isPublic(inside.getModifiers())) {
-                tell(inside.getName() + " is public or not static");
+            if (Modifier.isPublic(inside.getModifiers()) || Modifier.isProtected(inside.getModifiers())) {
+                tell(inside.getName() + " is public or protected");
             }
         }
         System.out.println(wrong == 0 ? "the face is as due" : wrong + " things of the face are not as due");
@@ -48,6 +49,18 @@ public final class FaceTest {
     private static void compare(String what, Set<String> want, Set<String> got) {
         if (!want.equals(got)) {
             tell(what + " are " + got + ", due are " + want);
+        }
+    }
+
+    private static void namesOfHiddenMethods() {
+        Set<String> shown = new TreeSet<>();
+        for (Method method : DialTrain.class.getMethods()) {
+            shown.add(method.getName());
+        }
+        for (Method method : DialTrain.class.getDeclaredMethods()) {
+            if (Modifier.isPrivate(method.getModifiers()) && shown.contains(method.getName())) {
+                tell("a private method bears the name of a public one: " + method.getName());
+            }
         }
     }
 

@@ -3,7 +3,7 @@ import java.util.Random;
 /** Long runs of drawn calls, each answer held against the machine's own (MachineDials). */
 public final class MachineTest {
     private static final int RUNS = 6000;
-    private static final int CALLS = 512;
+    private static final int CALLS = 511;
 
     private static final double[] EDGES = {
         0.0, -0.0, 1.0, -1.0, 0.5, 2.0, 3.0, -5.75, 10.0, 0.1, 1e6, 127.0, 128.0, -129.0, 32768.0, 65536.5, 65535.0,

@@ -1,15 +1,5 @@
 /** Each promise of the document by itself: ordinary calls, the edges it names, wrong inputs. */
-public final class PromisesTest {
-    private static final int BAD = -1, NULL = -11, CAST = -12, INDEX = -13, STORE = -14, NONE = -15, SIZE = -16;
-    private static final int F = 0, D = 1, SPINDLE = 2, FAST = 3;
-    private static final int MIN = Integer.MIN_VALUE, MAX = Integer.MAX_VALUE;
-    private static final double ENDLESS = Double.POSITIVE_INFINITY;
-    private static final long[] NO_DOUBLES = {0x7ff0000000000001L, 0x7ff8000000000000L, 0xfff0000000000001L, -1L, Long.MAX_VALUE};
-    private static final long[] NO_FLOATS = {0x7f800001L, 0x7fc00000L, 0xff800001L, 0xffffffffL, -1L, 0x123456787fc00000L};
-    private static final int[] NO_SLOTS = {-1, 8, MIN, MAX};
-
-    private static final Due due = new Due();
-
+public final class PromisesTest extends Bench {
     public static void main(String[] args) {
         promise1();
         promise2();
@@ -32,89 +22,6 @@ public final class PromisesTest {
         promise19();
         promise20();
         due.end();
-    }
-
-    private static long d(double x) {
-        return Double.doubleToLongBits(x);
-    }
-
-    private static long f(double x) {
-        return Integer.toUnsignedLong(Float.floatToIntBits((float) x));
-    }
-
-    private static long bits(int lane, double x) {
-        return lane == F ? f(x) : d(x);
-    }
-
-    /** SLOT 0 FLOATS, 1 DOUBLES, 2 a SPINDLE, 3 a FAST SPINDLE, of 3 items each; the others hold nothing. */
-    private static DialTrain rows() {
-        DialTrain x = new DialTrain();
-        for (int kind = 0; kind < 4; kind++) {
-            due.is("row(kind, kind, 3)", x.row(kind, kind, 3), 1);
-        }
-        return x;
-    }
-
-    /** As rows(); WHEEL 0 of 10 teeth in place 0 of SLOT 2, RATCHET 1 of 10 in 1 of it and in 0 of SLOT 3. */
-    private static DialTrain spindles() {
-        DialTrain x = rows();
-        due.is("wheel(0, 0, 10)", x.wheel(0, 0, 10), 1);
-        due.is("wheel(1, 1, 10)", x.wheel(1, 1, 10), 1);
-        due.is("lay(2, 0, 0)", x.lay(2, 0, 0), 1);
-        due.is("lay(2, 1, 1)", x.lay(2, 1, 1), 1);
-        due.is("lay(3, 0, 1)", x.lay(3, 0, 1), 1);
-        return x;
-    }
-
-    private static DialTrain readings(int lane, double... all) {
-        DialTrain x = new DialTrain();
-        x.row(lane, lane, all.length);
-        for (int i = 0; i < all.length; i++) {
-            due.is("put of " + all[i], x.put(lane, lane, i, bits(lane, all[i])), 1);
-        }
-        return x;
-    }
-
-    private static void item(DialTrain x, int slot, int lane, int i, double want) {
-        due.is("get(" + slot + ", " + lane + ", " + i + ")", x.get(slot, lane, i), bits(lane, want));
-        due.is("failed()", x.failed(), 0);
-    }
-
-    private static void turned(DialTrain x, int slot, int i, double want) {
-        due.is("angle(" + slot + ", " + i + ")", x.angle(slot, i), d(want));
-        due.is("failed()", x.failed(), 0);
-    }
-
-    private static void clicked(DialTrain x, int slot, int i, long want) {
-        due.is("clicks(" + slot + ", " + i + ")", x.clicks(slot, i), want);
-        due.is("failed()", x.failed(), 0);
-    }
-
-    private static void refusedGet(DialTrain x, int slot, int lane, int i, int want) {
-        due.is("get(" + slot + ", " + lane + ", " + i + ")", x.get(slot, lane, i), 0);
-        due.is("failed()", x.failed(), want);
-    }
-
-    private static void refusedAs(DialTrain x, int slot, int lane, int i, int how, int want) {
-        due.is("as(" + slot + ", " + lane + ", " + i + ", " + how + ")", x.as(slot, lane, i, how), 0);
-        due.is("failed()", x.failed(), want);
-    }
-
-    private static void refusedAngle(DialTrain x, int slot, int i, int want) {
-        due.is("angle(" + slot + ", " + i + ")", x.angle(slot, i), 0);
-        due.is("failed()", x.failed(), want);
-    }
-
-    private static void refusedClicks(DialTrain x, int slot, int i, int want) {
-        due.is("clicks(" + slot + ", " + i + ")", x.clicks(slot, i), 0);
-        due.is("failed()", x.failed(), want);
-    }
-
-    /** Refusals NULL, CAST, INDEX, STORE, NONE up to now. */
-    private static void refusals(DialTrain x, int... want) {
-        for (int k = 0; k < 5; k++) {
-            due.is("count(" + (k + 2) + ")", x.count(k + 2), want[k]);
-        }
     }
 
     private static void promise1() {
