@@ -348,11 +348,13 @@ public final class ReadingEdgesTest extends Bench {
         leaves(Float.MAX_VALUE, Float.MIN_VALUE * 3.0, Float.MAX_VALUE % (Float.MIN_VALUE * 3.0f));
         leaves(-Float.MAX_VALUE, 11.0, -9.0);
         leaves(Float.MIN_NORMAL * 1.5, Float.MIN_NORMAL, Float.MIN_NORMAL * 0.5);
-        DialTrain x = readings(D, Double.MAX_VALUE, -Double.MAX_VALUE, Double.MIN_VALUE * 7, Double.MIN_NORMAL * 1.5);
+        leaves(Float.MIN_NORMAL * 3.0, Float.MIN_NORMAL * 2.5, Float.MIN_NORMAL * 0.5);
+        leaves(Float.MIN_NORMAL * 7.0, Float.MIN_NORMAL * 6.0, Float.MIN_NORMAL);
+        DialTrain x = readings(D, Double.MAX_VALUE, -Double.MAX_VALUE, Double.MIN_VALUE * 7, Double.MIN_NORMAL * 3.0);
         due.is("rest of the greatest by 3 of the least", x.rest(1, D, 0, 3), 1);
         due.is("rest by 10.0", x.rest(1, D, 1, d(10.0)), 1);
         due.is("rest by 4 of the least", x.rest(1, D, 2, 4), 1);
-        due.is("rest by the least normal one", x.rest(1, D, 3, d(Double.MIN_NORMAL)), 1);
+        due.is("rest by 2.5 of the least normal one", x.rest(1, D, 3, d(Double.MIN_NORMAL * 2.5)), 1);
         items(x, 1, D, Double.MAX_VALUE % (Double.MIN_VALUE * 3), -8.0, Double.MIN_VALUE * 3, Double.MIN_NORMAL * 0.5);
     }
 
