@@ -22,7 +22,8 @@ public final class LanguageTest {
         never("rule 3", code, "\\bNaN\\b|[^\\x00-\\xff]");
         only("rule 4", code, "\\bimport\\s[^;]*;", "import\\s+java\\.util\\.(ArrayList|List|Arrays|Iterator|NoSuchElementException);");
         only("rule 4", code, "\\bSystem\\s*\\.\\s*\\w+", "System\\.arraycopy");
-        never("rule 4", code, "\\b\\w+Exact\\b|\\bMath\\s*\\.\\s*random\\b");
+        never("rule 4", code, "\\b(Float|Double|Object|Objects)\\s*\\.");
+        never("rule 4", code, "\\b\\w+Exact\\b|\\bMath\\s*\\.\\s*(random|sqrt|pow|floor|ceil|rint|round|scalb|getExponent|fma)\\b");
         never("rule 5", code, "\\bstatic\\s*\\{");
         never("rule 6", code, "\\b(finally|synchronized|assert|throws|hashCode|getMessage)\\b|\\btry\\s*\\(");
         only("rule 6", code, "\\bthrow\\s+new\\s+\\w+", "throw\\s+new\\s+(" + EXCEPTIONS + ")");

@@ -735,6 +735,32 @@ public final class ReadingEdgesTest extends Bench {
         cast(D, Double.MAX_VALUE, 6, 0x7fefffffffffffffL);
     }
 
+    /** From the least power of two that a lane has to the greatest, 24 in a ROW. */
+    private static void castOfEachPower(int lane, int least, int greatest, int how) {
+        for (int first = least; first <= greatest; first += 24) {
+            double[] all = new double[Math.min(24, greatest - first + 1)];
+            for (int i = 0; i < all.length; i++) {
+                all[i] = (i % 2 == 0 ? 1.0 : -1.0) * Math.scalb(1.0, first + i);
+            }
+            DialTrain x = readings(lane, all);
+            for (int i = 0; i < all.length; i++) {
+                due.is("as of " + all[i] + ", how = " + how, x.as(lane, lane, i, how), how == 5 ? f(all[i]) : d(all[i]));
+            }
+        }
+    }
+
+    @Says(promise = 10, text = "5 the BITS of a float")
+    private static void asFloatOfEachPower() {
+        castOfEachPower(F, -149, 127, 5);
+        castOfEachPower(D, -1074, 1023, 5);
+    }
+
+    @Says(promise = 10, text = "6 of a double")
+    private static void asDoubleOfEachPower() {
+        castOfEachPower(F, -149, 127, 6);
+        castOfEachPower(D, -1074, 1023, 6);
+    }
+
     @Says(promise = 11, text = "BAD -1 there is no such thing")
     private static void wholeInNoSuchSlot() {
         noSuchSlot(WHOLE);
