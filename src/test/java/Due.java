@@ -16,6 +16,15 @@ final class Due {
         }
     }
 
+    void is(String call, double got, double want) {
+        calls++;
+        // not by ==, as 0.0 and -0.0 are two answers
+        if (Double.compare(got, want) != 0) {
+            wrong++;
+            System.out.println(part + ": " + call + " answered " + got + ", due is " + want);
+        }
+    }
+
     /** Something that no single answer tells. */
     void fault(String what) {
         calls++;

@@ -20,6 +20,13 @@ public final class FaceTest {
         "BAD = -1", "NULL = -11", "CAST = -12", "INDEX = -13", "STORE = -14", "NONE = -15", "SIZE = -16"
     };
 
+    private static final int MOST_CLASSES = 12;
+    private static final int MOST_FIELDS = 20;
+    private static final int MOST_PARAMETERS = 7;
+    private static final Set<Class<?>> ENUM_TYPES = Set.of(int.class, long.class, boolean.class, String.class);
+    private static final Set<Class<?>> STATIC_TYPES = Set.of(int.class, long.class, boolean.class, char.class, String.class,
+            int[].class, long[].class, char[].class, byte[].class);
+
     private static int wrong = 0;
 
     public static void main(String[] args) throws IllegalAccessException {
@@ -30,11 +37,8 @@ public final class FaceTest {
         compare("constants", new TreeSet<>(Arrays.asList(CONSTANTS)), constants());
         constructors();
         namesOfHiddenMethods();
-        for (Class<?> inside : DialTrain.class.getDeclaredClasses()) {
-            if (Modifier.isPublic(inside.getModifiers()) || Modifier.isProtected(inside.getModifiers())) {
-                tell(inside.getName() + " is public or protected");
-            }
-        }
+        classesInside();
+        members(DialTrain.class);
         System.out.println(wrong == 0 ? "the face is as due" : wrong + " things of the face are not as due");
         if (wrong != 0) {
             System.exit(1);
@@ -50,6 +54,51 @@ public final class FaceTest {
         if (!want.equals(got)) {
             tell(what + " are " + got + ", due are " + want);
         }
+    }
+
+    private static void classesInside() {
+        Class<?>[] all = DialTrain.class.getDeclaredClasses();
+        if (all.length >= MOST_CLASSES) {
+            tell("there are " + all.length + " classes inside");
+        }
+        for (Class<?> inside : all) {
+            int kind = inside.getModifiers();
+            if (Modifier.isPublic(kind) || Modifier.isProtected(kind) || !Modifier.isStatic(kind)) {
+                tell(inside.getName() + " is public, protected or not static");
+            }
+            members(inside);
+        }
+    }
+
+    /** What rules 2, 5 and 11 of LANGUAGE.md say of fields and parameters. */
+    private static void members(Class<?> owner) {
+        int fields = 0;
+        for (Field field : owner.getDeclaredFields()) {
+            if (field.isSynthetic() || field.isEnumConstant()) {
+                continue;
+            }
+            boolean isStatic = Modifier.isStatic(field.getModifiers());
+            if (isStatic && !(Modifier.isFinal(field.getModifiers()) && mayBeStatic(field.getType()))) {
+                tell("rule 5 rules out the static field " + field);
+            }
+            if (owner.isEnum() && !isStatic && !ENUM_TYPES.contains(field.getType())) {
+                tell("rule 2 rules out the field " + field);
+            }
+            fields += isStatic ? 0 : 1;
+        }
+        if (fields > MOST_FIELDS) {
+            tell("rule 11: " + owner.getName() + " has " + fields + " fields");
+        }
+        for (Method method : owner.getDeclaredMethods()) {
+            if (method.getParameterCount() > MOST_PARAMETERS) {
+                tell("rule 11: " + method + " takes " + method.getParameterCount() + " parameters");
+            }
+        }
+    }
+
+    /** An enum's values() may be kept, too. */
+    private static boolean mayBeStatic(Class<?> type) {
+        return STATIC_TYPES.contains(type) || type.isArray() && type.getComponentType().isEnum();
     }
 
     private static void namesOfHiddenMethods() {
